@@ -743,12 +743,13 @@ public final class TranslatingHost {
                 int expanded = Shorts.expand(half);
                 return expanded == Shorts.NO_INSTRUCTION ? raise(ILLEGAL, half) : perform(expanded);
             }
-            at = pages.find(pc + 2, FETCH, control.level);
-            if (at < 0) {
-                return raiseFound(at, pc + 2);
+            // Within one page both halves are found alike; only behind its last bytes there is anything to look up.
+            long behind = (pc & 0xfff) == 0xffe ? pages.find(pc + 2, FETCH, control.level) : at + 2;
+            if (behind < 0) {
+                return raiseFound(behind, pc + 2);
             }
             next = pc + 4;
-            return perform(half | memory.halfAt((int) at) << 16);
+            return perform(half | memory.halfAt((int) behind) << 16);
         }
 
         private void put(int rd, int v) {
