@@ -1514,7 +1514,7 @@ public final class TranslatingHost {
             return token >= 0 && token < tokens ? places[token] : length;
         }
 
-        long valueOf(int token) {
+        long tokenValue(int token) {
             return token >= 0 && token < tokens ? values[token] : 0;
         }
 
@@ -1915,7 +1915,7 @@ public final class TranslatingHost {
         private void checkRanges() {
             for (int i = 0; i < operands && i < MOST && fault == 0; i++) {
                 Part part = parts[partOf[i]];
-                if (part.kind != Part.TARGET && !part.allows(tape.valueOf(tokenOf[i]))) {
+                if (part.kind != Part.TARGET && !part.allows(tape.tokenValue(tokenOf[i]))) {
                     fail(RANGE, tokenOf[i]);
                 }
             }
@@ -1935,16 +1935,16 @@ public final class TranslatingHost {
         private int bytesOf(int s) {
             Op op = ops[opOf[s]];
             switch (op.kind) {
-                case Op.ONE_OR_TWO: return isOneInstruction((int) valueOf(firstOf[s] + 1)) ? 4 : 8;
+                case Op.ONE_OR_TWO: return isOneInstruction((int) operandValue(firstOf[s] + 1)) ? 4 : 8;
                 case Op.LIST: return op.bits * (firstOf[s + 1] - firstOf[s]);
-                case Op.ZEROS: return (int) valueOf(firstOf[s]);
-                case Op.ZEROS_UP: return -addressOf[s] & ((1 << (int) valueOf(firstOf[s])) - 1);
+                case Op.ZEROS: return (int) operandValue(firstOf[s]);
+                case Op.ZEROS_UP: return -addressOf[s] & ((1 << (int) operandValue(firstOf[s])) - 1);
                 default: return op.bytesOfInstruction();
             }
         }
 
-        private long valueOf(int operand) {
-            return operand >= 0 && operand < operands && operand < MOST ? tape.valueOf(tokenOf[operand]) : 0;
+        private long operandValue(int operand) {
+            return operand >= 0 && operand < operands && operand < MOST ? tape.tokenValue(tokenOf[operand]) : 0;
         }
 
         private static boolean isSmall(int v) {
@@ -1974,7 +1974,7 @@ public final class TranslatingHost {
                 }
                 tape.giveValue(token, addressOf[labelStatement[k]] - address);
             }
-            if (!part.allows(tape.valueOf(token))) {
+            if (!part.allows(tape.tokenValue(token))) {
                 fail(RANGE, token);
             }
         }
@@ -1984,7 +1984,7 @@ public final class TranslatingHost {
                 Op op = ops[opOf[s]];
                 switch (op.kind) {
                     case Op.ONE_OR_TWO:
-                        emitNumber(addressOf[s], (int) valueOf(firstOf[s]), (int) valueOf(firstOf[s] + 1));
+                        emitNumber(addressOf[s], (int) operandValue(firstOf[s]), (int) operandValue(firstOf[s] + 1));
                         break;
                     case Op.LIST:
                         emitList(s, op.bits);
@@ -2003,7 +2003,7 @@ public final class TranslatingHost {
         private int instruction(int s, Op op) {
             int bits = op.bits;
             for (int i = firstOf[s]; i < firstOf[s + 1] && i < MOST; i++) {
-                bits |= parts[partOf[i]].bitsFor(tape.valueOf(tokenOf[i]));
+                bits |= parts[partOf[i]].bitsFor(tape.tokenValue(tokenOf[i]));
             }
             return bits;
         }
@@ -2023,7 +2023,7 @@ public final class TranslatingHost {
         private void emitList(int s, int bytes) {
             int at = addressOf[s];
             for (int i = firstOf[s]; i < firstOf[s + 1]; i++) {
-                emit(at, (int) valueOf(i), bytes);
+                emit(at, (int) operandValue(i), bytes);
                 at += bytes;
             }
         }
