@@ -1862,7 +1862,7 @@ public final class TranslatingHost {
             for (int i = 0; i < shape.length() && fault == 0; i++) {
                 parsePiece(shape.charAt(i));
             }
-            boolean list = ops[op].kind == Op.LIST;
+            boolean list = ops[op].kind == Op.LIST && !shape.isEmpty();
             for (int i = 0; list && i < MOST && fault == 0 && tape.kindOf(cursor) == Tape.COMMA; i++) {
                 cursor++;
                 parsePiece(shape.charAt(0));

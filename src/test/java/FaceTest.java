@@ -246,6 +246,8 @@ public final class FaceTest {
         TranslatingHost halted = Due.after(3, "li x1, 0x10000200\nsw x1, 0(x1)");
         Due.is("HALTED", halted.count(5), 1);
         Due.is("reset() of a HALTED one", halted.reset(), 3);
+        Due.is("HALTED after reset", halted.count(5), 0);
+        Due.is("CODE after reset", halted.count(6), 0);
         Due.is("runs again", halted.run(2), 2);
     }
 
