@@ -24,6 +24,18 @@ final class Due {
         }
     }
 
+    static void yes(String call, boolean got) {
+        is(call, got ? 1 : 0, 1);
+    }
+
+    static int asked() {
+        return asked;
+    }
+
+    static int wrong() {
+        return wrong;
+    }
+
     static void done() {
         System.out.println(asked + " answers, " + wrong + " not as due");
         if (wrong != 0 || asked == 0) {
@@ -80,5 +92,24 @@ final class Due {
     static String tell(TranslatingHost x, int address) {
         int bytes = x.tell(address);
         return bytes == TranslatingHost.NONE ? "NONE" : bytes + " " + told(x);
+    }
+
+    /** A text that is assembled at 1000 (of base 16) as so many bytes, without a FAULT. */
+    static TranslatingHost takes(String text, int bytes) {
+        TranslatingHost x = new TranslatingHost();
+        is("assemble of '" + text + "'", assemble(x, 0x1000, text), bytes);
+        is("place of '" + text + "'", x.place(), TranslatingHost.NONE);
+        return x;
+    }
+
+    /** A text with a FAULT at a place; MEMORY stays as it is, and THE TAPE is empty. */
+    static void fails(String text, int fault, int place) {
+        TranslatingHost x = new TranslatingHost();
+        x.load(0x1000, -1, -1, -1, -1);
+        is("assemble of '" + text + "'", assemble(x, 0x1000, text), -fault);
+        is("place of '" + text + "'", x.place(), place);
+        is("MEMORY behind '" + text + "'", x.word(0x1000), 0xffffffffL);
+        is("MEMORY's next word behind '" + text + "'", x.word(0x1004), 0xffffffffL);
+        is("THE TAPE behind '" + text + "'", x.end(20), TranslatingHost.NONE);
     }
 }

@@ -1,5 +1,6 @@
 import java.math.BigInteger;
 import java.util.ArrayDeque;
+import java.util.LinkedHashSet;
 import java.util.TreeMap;
 
 /**
@@ -20,6 +21,9 @@ final class PlainMachine {
     }
 
     final byte[] memory = new byte[262144];
+    /** The words that were written, and those of the disk, the last ones last. */
+    final LinkedHashSet<Integer> written = new LinkedHashSet<>();
+    final LinkedHashSet<Integer> writtenOnDisk = new LinkedHashSet<>();
     final int[] disk = new int[64 * 128];
     final int[] x = new int[32];
     final TreeMap<Integer, Integer> csrs = new TreeMap<>();
@@ -59,6 +63,7 @@ final class PlainMachine {
     }
 
     private void put(int at, int v, int bytes) {
+        written.add(at & ~3);
         for (int i = 0; i < bytes; i++) {
             memory[at + i] = (byte) (v >> 8 * i);
         }
@@ -239,6 +244,7 @@ final class PlainMachine {
                     putWord(place + 4 * i, disk[sector * 128 + i]);
                 } else {
                     disk[sector * 128 + i] = word(place + 4 * i);
+                    writtenOnDisk.add(sector * 128 + i);
                 }
             }
         }

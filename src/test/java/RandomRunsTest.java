@@ -1,6 +1,6 @@
 import java.util.Random;
 
-/** Runs of made-up programs, step by step beside PlainMachine, which was written apart. */
+/** Runs of made-up programs beside PlainMachine, which was written apart; an object is used for 512 calls at most. */
 public final class RandomRunsTest {
     private static final int[] CSRS = {
         0x100, 0x104, 0x105, 0x140, 0x141, 0x142, 0x143, 0x144, 0x180, 0xc00, 0xc01, 0xc02, 0xc80, 0xc81, 0xc82,
@@ -25,7 +25,7 @@ public final class RandomRunsTest {
         long traps = 0;
         long retired = 0;
         long interrupts = 0;
-        for (int seed = 1; seed <= 3000; seed++) {
+        for (int seed = 1; seed <= 8000; seed++) {
             RandomRunsTest one = new RandomRunsTest(seed);
             one.go();
             traps += one.plain.traps;
@@ -88,7 +88,9 @@ public final class RandomRunsTest {
             plain.disk[where * 128 + i] = v;
         }
         begin();
-        for (int i = 0; i < 100 && !wrong && !plain.halted; i++) {
+        plain.written.clear();
+        int turns = 1 + below(40);
+        for (int i = 0; i < turns && !wrong && !plain.halted; i++) {
             if (below(12) == 0) {
                 host.key(i);
                 plain.input.add(i);
@@ -103,8 +105,9 @@ public final class RandomRunsTest {
                 want++;
             }
             same("run", host.run(steps), want);
-            compare();
+            same("pc", host.reg(32), plain.pc);
         }
+        compare();
         compareMemory();
     }
 
@@ -211,7 +214,7 @@ public final class RandomRunsTest {
         same("HALTED", host.count(5), plain.halted ? 1 : 0);
         same("CODE", host.count(6), plain.code);
         same("check()", host.check(), 1);
-        for (int i = 0; i < 4; i++) {
+        for (int i = 0; i < 20; i++) {
             int address = value();
             int how = below(3);
             int level = below(2);
@@ -221,18 +224,29 @@ public final class RandomRunsTest {
     }
 
     private void compareMemory() {
-        for (int at = 0; at < 262144; at += 4) {
-            if (host.word(at) != (plain.word(at) & 0xffffffffL)) {
-                same("word " + Integer.toHexString(at), host.word(at), plain.word(at) & 0xffffffffL);
+        int asked = 0;
+        for (int at : plain.written) {
+            if (asked < 80) {
+                sameWord(at);
+                asked++;
             }
         }
-        for (int i = 0; i < 64 * 128; i++) {
-            if (host.disk(i / 128, i % 128) != (plain.disk[i] & 0xffffffffL)) {
+        for (int i = 0; i < 20; i++) {
+            sameWord(4 * below(65536));
+        }
+        asked = 0;
+        for (int i : plain.writtenOnDisk) {
+            if (asked < 20) {
                 same("disk " + i, host.disk(i / 128, i % 128), plain.disk[i] & 0xffffffffL);
+                asked++;
             }
         }
-        for (int i = 0; i < plain.output.length() && i < 1000; i++) {
+        for (int i = 0; i < plain.output.length() && i < 20; i++) {
             same("out " + i, host.out(i), plain.output.charAt(i));
         }
+    }
+
+    private void sameWord(int at) {
+        same("word " + Integer.toHexString(at), host.word(at), plain.word(at) & 0xffffffffL);
     }
 }

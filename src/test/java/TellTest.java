@@ -182,6 +182,9 @@ public final class TellTest {
     private static void allHalvesComeBack() {
         TranslatingHost x = new TranslatingHost();
         for (int h = 0; h < 65536; h++) {
+            if (h % 8 == 0) {
+                x = new TranslatingHost();
+            }
             if ((h & 3) != 3) {
                 comesBack(x, h, 2);
             }
@@ -194,6 +197,9 @@ public final class TellTest {
         int[] codes = {0x37, 0x17, 0x6f, 0x67, 0x63, 0x03, 0x23, 0x13, 0x33, 0x2f, 0x0f, 0x73};
         TranslatingHost x = new TranslatingHost();
         for (int i = 0; i < 60000; i++) {
+            if (i % 6 == 0) {
+                x = new TranslatingHost();
+            }
             int bits = random.nextInt() & ~0x7f | codes[i % codes.length];
             if (random.nextInt(3) == 0) {
                 bits &= random.nextBoolean() ? 0x01ffffff : 0x41ffffff;
