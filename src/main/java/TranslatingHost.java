@@ -7,6 +7,9 @@ public final class TranslatingHost {
     private static final int MEMORY_BYTES = 262144;
     private static final int LAST_WORD = MEMORY_BYTES / 4 - 1;
     private static final long LOW_32 = 0xffffffffL;
+    /** With their signs turned, numbers without sign compare as those with one do. */
+    private static final int SIGN_32 = 1 << 31;
+    private static final long SIGN_64 = 1L << 63;
 
     private static final int LEVEL_U = 0;
     private static final int LEVEL_S = 1;
@@ -326,7 +329,7 @@ public final class TranslatingHost {
         }
 
         boolean isTimeUp() {
-            return (time ^ Long.MIN_VALUE) >= (compare ^ Long.MIN_VALUE);
+            return (time ^ SIGN_64) >= (compare ^ SIGN_64);
         }
 
         int readAt(int address) {
@@ -834,7 +837,7 @@ public final class TranslatingHost {
         }
 
         private static boolean isBelow(int a, int b) {
-            return a + Integer.MIN_VALUE < b + Integer.MIN_VALUE;
+            return (a ^ SIGN_32) < (b ^ SIGN_32);
         }
 
         private boolean loadFrom(int word, int rd) {

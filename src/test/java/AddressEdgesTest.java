@@ -750,6 +750,31 @@ public final class AddressEdgesTest {
         Due.is("check()", x.check(), 1);
     }
 
+    // "the RESERVATION is that physical address"
+
+    private static void theReservationIsOfThePhysicalAddressNotOfThePages() {
+        TranslatingHost x = page(ALL, 0);
+        Due.assemble(x, 0x100, "lr.w x4, (x5)\nsc.w x3, x2, (x6)");
+        x.set(5, AT + 8);
+        x.set(6, PAGE + 8);
+        x.set(32, 0x100);
+        x.run(2);
+        Due.is("another address, the same place", x.reg(3), 0);
+        Due.is("TRAPS", x.count(2), 0);
+    }
+
+    private static void theReservationDoesNotFollowAChangedPage() {
+        TranslatingHost x = page(ALL, 0);
+        Due.assemble(x, 0x100, "lr.w x4, (x5)\nsw x2, 0(x6)\nsc.w x3, x2, (x5)");
+        x.set(2, 0x14000 >> 2 | ALL);
+        x.set(5, AT + 8);
+        x.set(6, NEXT);
+        x.set(32, 0x100);
+        x.run(3);
+        Due.is("the same address, another place", x.reg(3), 1);
+        Due.is("nothing is stored", x.word(0x14008), 0);
+    }
+
     private static void satpCountsForTheNextFetch() {
         TranslatingHost x = Due.with("csrrw x0, satp, x1\naddi x3, x0, 1");
         x.load(ROOT, 0, 0, 0, 0);
