@@ -221,6 +221,50 @@ public final class StatementEdgesTest {
         number("csrrci x1, sscratch, %", 0, 0x140070f3, 31, 0x140ff0f3);
     }
 
+    // "add and all of 33: rd, rs1, rs2", the atomics, and those that stand alone
+
+    private static void eachStatementWithoutANumber() {
+        makes("add x1, x2, x31", 4, 0x01f100b3);
+        makes("sub x1, x2, x31", 4, 0x41f100b3);
+        makes("sll x1, x2, x31", 4, 0x01f110b3);
+        makes("slt x1, x2, x31", 4, 0x01f120b3);
+        makes("sltu x1, x2, x31", 4, 0x01f130b3);
+        makes("xor x1, x2, x31", 4, 0x01f140b3);
+        makes("srl x1, x2, x31", 4, 0x01f150b3);
+        makes("sra x1, x2, x31", 4, 0x41f150b3);
+        makes("or x1, x2, x31", 4, 0x01f160b3);
+        makes("and x1, x2, x31", 4, 0x01f170b3);
+        makes("mul x1, x2, x31", 4, 0x03f100b3);
+        makes("mulh x1, x2, x31", 4, 0x03f110b3);
+        makes("mulhsu x1, x2, x31", 4, 0x03f120b3);
+        makes("mulhu x1, x2, x31", 4, 0x03f130b3);
+        makes("div x1, x2, x31", 4, 0x03f140b3);
+        makes("divu x1, x2, x31", 4, 0x03f150b3);
+        makes("rem x1, x2, x31", 4, 0x03f160b3);
+        makes("remu x1, x2, x31", 4, 0x03f170b3);
+        makes("lr.w x1, (x2)", 4, 0x100120af);
+        makes("sc.w x1, x3, (x2)", 4, 0x183120af);
+        makes("amoswap.w x1, x3, (x2)", 4, 0x083120af);
+        makes("amoadd.w x1, x3, (x2)", 4, 0x003120af);
+        makes("amoxor.w x1, x3, (x2)", 4, 0x203120af);
+        makes("amoand.w x1, x3, (x2)", 4, 0x603120af);
+        makes("amoor.w x1, x3, (x2)", 4, 0x403120af);
+        makes("amomin.w x1, x3, (x2)", 4, 0x803120af);
+        makes("amomax.w x1, x3, (x2)", 4, 0xa03120af);
+        makes("amominu.w x1, x3, (x2)", 4, 0xc03120af);
+        makes("amomaxu.w x1, x3, (x2)", 4, 0xe03120af);
+        makes("ecall", 4, 0x00000073);
+        makes("ebreak", 4, 0x00100073);
+        makes("sret", 4, 0x10200073);
+        makes("wfi", 4, 0x10500073);
+        makes("sfence.vma x1, x2", 4, 0x12208073);
+        makes("csrrw x1, sie, x2", 4, 0x104110f3);
+        makes("csrrs x1, sie, x2", 4, 0x104120f3);
+        makes("csrrc x1, sie, x2", 4, 0x104130f3);
+        makes("fence.i", 4, 0x0000100f);
+        makes("fence", 4, 0x0000000f);
+    }
+
     // Registers of the statements of 32 bits: all
 
     private static void longStatementsTakeEachRegister() {
@@ -401,6 +445,7 @@ public final class StatementEdgesTest {
         TranslatingHost x = Due.takes("li x1, " + number, bytes);
         Due.is("li " + number + ": the first", x.word(0x1000), first);
         Due.is("li " + number + ": the second", x.word(0x1004), second);
+        Due.is("li " + number + ": behind", x.word(0x1008), 0);
         x.set(1, 0x55555555);
         x.set(32, 0x1000);
         x.run(bytes / 4);

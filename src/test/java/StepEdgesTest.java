@@ -763,6 +763,14 @@ public final class StepEdgesTest {
         atomic("amoadd.w", -1, 1, 0);
     }
 
+    private static void eachAmoOfAllItsBits() {
+        atomic("amoswap.w", 0x0f0f0f0f, 0x00ff00ff, 0x00ff00ff);
+        atomic("amoadd.w", 0x0f0f0f0f, 0x00ff00ff, 0x100e100e);
+        atomic("amoxor.w", 0x0f0f0f0f, 0x00ff00ff, 0x0ff00ff0);
+        atomic("amoand.w", 0x0f0f0f0f, 0x00ff00ff, 0x000f000f);
+        atomic("amoor.w", 0x0f0f0f0f, 0x00ff00ff, 0x0fff0fff);
+    }
+
     private static void atomicsTakeTheFirstAndTheLastWordOfMemory() {
         String[] statements = {"lr.w x3, (x1)", "sc.w x3, x2, (x1)", "amoswap.w x3, x2, (x1)"};
         for (String statement : statements) {

@@ -131,6 +131,30 @@ public final class TellEdgesTest {
         tells(0x009484b3, "add x9, x9, x9");
     }
 
+    private static void eachWithRegistersAlone() {
+        tells(0x01f100b3, "add x1, x2, x31");
+        tells(0x41f100b3, "sub x1, x2, x31");
+        tells(0x01f110b3, "sll x1, x2, x31");
+        tells(0x01f120b3, "slt x1, x2, x31");
+        tells(0x01f130b3, "sltu x1, x2, x31");
+        tells(0x01f140b3, "xor x1, x2, x31");
+        tells(0x01f150b3, "srl x1, x2, x31");
+        tells(0x41f150b3, "sra x1, x2, x31");
+        tells(0x01f160b3, "or x1, x2, x31");
+        tells(0x01f170b3, "and x1, x2, x31");
+        tells(0x03f100b3, "mul x1, x2, x31");
+        tells(0x03f110b3, "mulh x1, x2, x31");
+        tells(0x03f120b3, "mulhsu x1, x2, x31");
+        tells(0x03f130b3, "mulhu x1, x2, x31");
+        tells(0x03f140b3, "div x1, x2, x31");
+        tells(0x03f150b3, "divu x1, x2, x31");
+        tells(0x03f160b3, "rem x1, x2, x31");
+        tells(0x03f170b3, "remu x1, x2, x31");
+        tells(0x104110f3, "csrrw x1, sie, x2");
+        tells(0x104120f3, "csrrs x1, sie, x2");
+        tells(0x104130f3, "csrrc x1, sie, x2");
+    }
+
     // "CSRs by their names, others by NUMBER"
 
     private static String csrName(int number) {

@@ -220,6 +220,10 @@ public final class TextEdgesTest {
         Due.takes(".word 1" + ",1".repeat(1996), 4 * 1997);
         Due.fails(":".repeat(4000), SYNTAX, 0);
         Due.fails("nop" + "(".repeat(3997), SYNTAX, 3);
+        Due.fails("\n".repeat(3999) + "$", SYNTAX, 3999);
+        Due.fails("\n".repeat(3999) + "5", SYNTAX, 3999);
+        Due.fails("\n".repeat(3999) + "a", SYNTAX, 3999);
+        Due.takes("\n".repeat(3998) + "a:", 0);
     }
 
     // "Promise 16: The place of the FAULT of the latest assemble(); NONE (also behind one that was NONE)"
@@ -661,6 +665,11 @@ public final class TextEdgesTest {
         Due.fails("addi x1, x2, a", SYNTAX, 13);
         Due.fails("lw x1, a(x2)", SYNTAX, 7);
         Due.fails("lw x1, 4(4)", SYNTAX, 9);
+        Due.fails("lw x1, 4)x2)", SYNTAX, 8);
+        Due.fails("lw x1, 4(x2(", SYNTAX, 11);
+        Due.fails("lw x1, 4,x2,", SYNTAX, 8);
+        Due.fails("add x1( x2, x3", SYNTAX, 6);
+        Due.fails("add x1: x2, x3", SYNTAX, 6);
         Due.fails("lui x1, a", SYNTAX, 8);
         Due.fails("jal 4, x1", SYNTAX, 4);
         Due.fails("j (", SYNTAX, 2);
@@ -697,6 +706,10 @@ public final class TextEdgesTest {
         return text.toString();
     }
 
+    private static String labelsInALine(int n) {
+        return labels(n).replace("nop\n", "");
+    }
+
     private static void aLabelThatThereIsAlready() {
         Due.fails("a: a:", LABEL, 3);
         Due.fails("a: nop\nb: nop\na: nop", LABEL, 14);
@@ -707,7 +720,8 @@ public final class TextEdgesTest {
     private static void the32ndLabelIsTaken() {
         Due.takes(labels(32), 128);
         Due.takes(labels(31) + "a: j a", 128);
-        Due.takes(labels(0) + "a1:a2:a3:a4:a5:a6:a7:a8:a9:b1:b2:b3:b4:b5:b6:b7:b8:b9:c1:c2:c3:c4:c5:c6:c7:c8:c9:d1:d2:d3:d4:d5:", 0);
+        Due.takes(labelsInALine(32), 0);
+        Due.takes(labelsInALine(32) + "nop", 4);
     }
 
     private static void the33rdLabelIsNot() {
@@ -716,6 +730,11 @@ public final class TextEdgesTest {
         Due.fails(most + "  a: nop", LABEL, most.length() + 2);
         Due.fails(most + "l5:", LABEL, most.length());
         Due.fails(most + "j a\na:", LABEL, most.length() + 4);
+        String line = labelsInALine(32);
+        Due.fails(line + "a:", LABEL, line.length());
+        Due.fails(line + "l31:", LABEL, line.length());
+        Due.fails(line + "nop:", LABEL, line.length());
+        Due.fails(line + "a:b:c: nop", LABEL, line.length());
     }
 
     private static void aNameBehind32LabelsIsNotALabel() {
