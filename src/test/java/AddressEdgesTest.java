@@ -750,6 +750,95 @@ public final class AddressEdgesTest {
         Due.is("check()", x.check(), 1);
     }
 
+    private static void loadAndAssembleIntoAnInstructionThatHasRunBefore() {
+        TranslatingHost x = Due.with("addi x3, x3, 1\nj -4");
+        x.run(4);
+        Due.is("before", x.reg(3), 2);
+        x.load(0, 0x06418193, 0xffdff06f, 0, 0);
+        x.run(2);
+        Due.is("behind load()", x.reg(3), 102);
+        Due.assemble(x, 0, "addi x3, x3, 1000");
+        x.run(2);
+        Due.is("behind assemble()", x.reg(3), 1102);
+        Due.is("check()", x.check(), 1);
+    }
+
+    private static void aStoreIntoOneOf16BitsThatHasRunBefore() {
+        TranslatingHost x = Due.with("c.addi x3, 1\nc.addi x3, 2\nsh x2, 2(x0)\nj -8");
+        x.set(2, 0x01fd);
+        x.run(4);
+        Due.is("before", x.reg(3), 3);
+        x.run(2);
+        Due.is("behind", x.reg(3), 3 + 1 + 31);
+    }
+
+    private static void aStoreThatMakesOneOf32BitsOfTwoOf16() {
+        TranslatingHost x = Due.with("c.addi x3, 1\n.half 0x0640\nsb x2, 0(x0)\nj -8");
+        x.set(2, 0x93);
+        x.run(1);
+        Due.is("before", x.reg(32), 2);
+        x.set(32, 4);
+        x.run(2);
+        x.run(1);
+        Due.is("behind", x.reg(32), 4);
+        Due.is("addi x3, x0, 100", x.reg(3), 100);
+    }
+
+    private static void aStoreByAnotherAddressOfTheSamePlace() {
+        TranslatingHost x = page(ALL, 0);
+        Due.assemble(x, PAGE, "addi x3, x3, 1\nj -4");
+        Due.assemble(x, 0x100, "sw x2, 0(x5)");
+        x.set(32, AT);
+        x.run(2);
+        x.set(2, 0x06418193);
+        x.set(5, PAGE);
+        x.set(32, 0x100);
+        x.run(1);
+        x.set(32, AT);
+        x.run(1);
+        Due.is("behind", x.reg(3), 101);
+        Due.is("check()", x.check(), 1);
+    }
+
+    private static void loadIntoAPageThatHasBeenLookedAt() {
+        TranslatingHost x = page(ALL, 0);
+        leads("before", x, AT, 1, all(PAGE));
+        x.load(NEXT, 0x14000 >> 2 | ALL, 0, 0, 0);
+        leads("another page", x, AT, 1, all(0x14000));
+        x.load(NEXT, 0, 0, 0, 0);
+        leads("no page", x, AT, 1, faults(PAGE_FAULTS));
+        x.load(ROOT, ALL, ALL, 0, 0);
+        leads("a great page", x, AT, 1, all(0));
+    }
+
+    private static void sumAndMxrCountFromTheNextStepOn() {
+        TranslatingHost x = page(V | X | U | A, 0);
+        Due.assemble(x, 0x100, "lw x3, 0(x5)\ncsrrw x0, sstatus, x6\nlw x4, 0(x5)\ncsrrw x0, sstatus, x0\nlw x7, 0(x5)");
+        x.load(PAGE, 55, 0, 0, 0);
+        x.set(5, AT);
+        x.set(6, SUM | MXR);
+        x.set(32, 0x100);
+        x.run(1);
+        Due.is("before", x.csr(0x142), 13);
+        x.set(32, 0x104);
+        x.run(2);
+        Due.is("with SUM, MXR", x.reg(4), 55);
+        x.run(2);
+        Due.is("without again", x.csr(0x141), 0x110);
+        Due.is("TRAPS", x.count(2), 2);
+    }
+
+    private static void theLevelCountsFromTheNextFetchOn() {
+        TranslatingHost x = page(ALL, 0);
+        Due.assemble(x, 0x100, "csrrw x0, sepc, x5\nsret");
+        x.set(5, 0x10c);
+        x.set(32, 0x100);
+        x.run(3);
+        Due.is("scause", x.csr(0x142), 12);
+        Due.is("stval", x.csr(0x143), 0x10c);
+        Due.is("SPP", x.csr(0x100) & 1 << 8, 0);
+    }
+
     // "the RESERVATION is that physical address"
 
     private static void theReservationIsOfThePhysicalAddressNotOfThePages() {

@@ -886,6 +886,41 @@ public final class CallEdgesTest {
         }
     }
 
+    // "What it comes to is told by single steps, whatever the host does to be quicker"
+
+    private static void oneRunIsAsManySingleSteps() {
+        String[] programs = {
+            "addi x5, x5, 1\nsw x6, 0(x0)\nj -8",
+            "li x7, 0x00130313\nloop: addi x6, x6, 2\nsw x7, 8(x0)\nc.addi x5, 1\nc.j loop",
+            "csrrwi x0, stvec, 4\necall\naddi x5, x5, 1\nj -8",
+            "lui x1, 0x10000\nsw x5, 0(x1)\naddi x5, x5, 3\nlw x6, 0(x1)\nj -12",
+            "lui x1, 0x10000\naddi x5, x5, 1\nslti x6, x5, 9\nbne x6, x0, -8\nsw x5, 0x200(x1)",
+        };
+        for (String program : programs) {
+            TranslatingHost whole = Due.with(program);
+            TranslatingHost threes = Due.with(program);
+            TranslatingHost single = Due.with(program);
+            long steps = whole.run(60);
+            long byThrees = 0;
+            long bySingle = 0;
+            for (int i = 0; i < 60; i++) {
+                bySingle += single.run(1);
+                byThrees += i < 20 ? threes.run(3) : 0;
+            }
+            Due.is("steps by threes", byThrees, steps);
+            Due.is("single steps", bySingle, steps);
+            for (int r = 0; r <= 33; r++) {
+                Due.is("reg(" + r + ") by threes", threes.reg(r), whole.reg(r));
+                Due.is("reg(" + r + ") by single steps", single.reg(r), whole.reg(r));
+            }
+            for (int what = 0; what <= 6; what++) {
+                Due.is("count(" + what + ") by threes", threes.count(what), whole.count(what));
+                Due.is("count(" + what + ") by single steps", single.count(what), whole.count(what));
+            }
+            Due.is("check()", whole.check(), 1);
+        }
+    }
+
     // "Promise 22: 1; it would tell 0"
 
     private static void checkOfANewOneIs1() {

@@ -196,6 +196,24 @@ public final class TextEdgesTest {
         Due.is("place()", x.place(), NONE);
     }
 
+    private static void aTextKnowsNothingOfTheOneBefore() {
+        String[] before = {
+            "a: j a\nb: .word 1, 2, 3, 4, 5, 6", "a: addi x1, x2, 2048\nb: nop", "a: j nowhere\nb: j 1", "a: bad", "a: a:",
+            "c.lw x1, 1(x1)", "a: b: c: .byte 256, 256, 256",
+        };
+        for (String text : before) {
+            TranslatingHost x = new TranslatingHost();
+            Due.assemble(x, 0x100, text);
+            Due.is("nop behind " + text, Due.assemble(x, 0x200, "nop"), 4);
+            Due.is("word(200) behind " + text, x.word(0x200), 0x13);
+            Due.is("place() behind " + text, x.place(), NONE);
+            Due.is("label(0) behind " + text, x.label(0), NONE);
+            Due.is("its labels behind " + text, Due.assemble(x, 0x300, "j a"), -NO_LABEL);
+            Due.is("a label behind " + text, Due.assemble(x, 0x300, "a: j a"), 4);
+            Due.is("label(0) of it", x.label(0), 0x300);
+        }
+    }
+
     private static void theTapeIsEmptyBehindAGoodOneAndABadOne() {
         TranslatingHost x = new TranslatingHost();
         Due.assemble(x, 0, "nop # 01234567890123456789");
