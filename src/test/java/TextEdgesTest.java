@@ -214,6 +214,16 @@ public final class TextEdgesTest {
         }
     }
 
+    private static void aShorterTextHasNoStatementOfALongerOneBefore() {
+        TranslatingHost x = new TranslatingHost();
+        Due.is("eight TARGETS", Due.assemble(x, 0x100, "j 0\n".repeat(8)), 32);
+        Due.is("four without any", Due.assemble(x, 0x100, "nop\n".repeat(4)), 16);
+        Due.is("the fourth", x.word(0x10c), 0x13);
+        Due.is("the fifth stays", x.word(0x110), 0x6f);
+        Due.is("eight NUMBERS", Due.assemble(x, 0x100, ".byte 255\n".repeat(8)), 8);
+        Due.is("two", Due.assemble(x, 0x100, ".align 1\n.align 2"), 0);
+    }
+
     private static void theTapeIsEmptyBehindAGoodOneAndABadOne() {
         TranslatingHost x = new TranslatingHost();
         Due.assemble(x, 0, "nop # 01234567890123456789");
