@@ -52,8 +52,10 @@ public final class TranslatingHost {
         pages = new Pages(memory, control);
         processor = new Processor(memory, devices, control, pages);
         tape = new Tape();
-        assembler = new Assembler(tape, memory);
-        teller = new Teller(memory);
+        Op[] ops = Op.values();
+        Part[] parts = Part.values();
+        assembler = new Assembler(tape, memory, ops, parts);
+        teller = new Teller(memory, ops, parts);
     }
 
     public int load(int address, int a, int b, int c, int d) {
@@ -1252,7 +1254,6 @@ public final class TranslatingHost {
         private static final int NUMBER = 1;
         private static final int CSR_NUMBER = 2;
         private static final int TARGET = 3;
-        private static final int LAST_LETTER = 127;
 
         private final int letter;
         private final int kind;
@@ -1270,14 +1271,14 @@ public final class TranslatingHost {
             this.greatest = greatest;
         }
 
-        /** For each letter its place in parts, or NONE. */
-        static int[] byLetter(Part[] parts) {
-            int[] places = new int[LAST_LETTER + 1];
-            Arrays.fill(places, NONE);
+        /** Where in parts the one with this letter is; NONE for a sign that is no part's letter. */
+        static int withLetter(Part[] parts, char letter) {
             for (int i = 0; i < parts.length; i++) {
-                places[parts[i].letter & LAST_LETTER] = i;
+                if (parts[i].letter == letter) {
+                    return i;
+                }
             }
-            return places;
+            return NONE;
         }
 
         boolean allows(long v) {
@@ -1740,9 +1741,8 @@ public final class TranslatingHost {
 
         private final Tape tape;
         private final Memory memory;
-        private final Op[] ops = Op.values();
-        private final Part[] parts = Part.values();
-        private final int[] partWith = Part.byLetter(parts);
+        private final Op[] ops;
+        private final Part[] parts;
         /** Of each statement: its Op, its name's token, its first operand, its address. */
         private final int[] opOf = new int[MOST];
         private final int[] nameOf = new int[MOST];
@@ -1762,9 +1762,11 @@ public final class TranslatingHost {
         private int fault;
         private int faultAt = NONE;
 
-        Assembler(Tape tape, Memory memory) {
+        Assembler(Tape tape, Memory memory, Op[] ops, Part[] parts) {
             this.tape = tape;
             this.memory = memory;
+            this.ops = ops;
+            this.parts = parts;
         }
 
         void forgetFault() {
@@ -1883,7 +1885,7 @@ public final class TranslatingHost {
         }
 
         private void parsePiece(char piece) {
-            int part = partWith[piece & Part.LAST_LETTER];
+            int part = Part.withLetter(parts, piece);
             int token = tape.kindOf(cursor);
             boolean stands = part == NONE ? token == tokenFor(piece) : operands < MOST && fits(parts[part].kind, token);
             if (!stands) {
@@ -2057,15 +2059,17 @@ public final class TranslatingHost {
         private static final String DIGITS = "0123456789abcdef";
 
         private final Memory memory;
-        private final Op[] ops = Op.values();
-        private final Part[] parts = Part.values();
-        private final int[] partWith = Part.byLetter(parts);
+        private final Op[] ops;
+        private final Part[] parts;
         /** Of each Op, the bits that must be as its own: those that nothing behind its name has. */
-        private final int[] fixedBits = new int[ops.length];
+        private final int[] fixedBits;
         private final StringBuilder text = new StringBuilder();
 
-        Teller(Memory memory) {
+        Teller(Memory memory, Op[] ops, Part[] parts) {
             this.memory = memory;
+            this.ops = ops;
+            this.parts = parts;
+            fixedBits = new int[ops.length];
             for (int i = 0; i < ops.length; i++) {
                 fixedBits[i] = ~bitsBehindName(ops[i]);
             }
@@ -2092,7 +2096,7 @@ public final class TranslatingHost {
         private int bitsBehindName(Op op) {
             int bits = 0;
             for (int i = 0; i < op.shape.length(); i++) {
-                int part = partWith[op.shape.charAt(i) & Part.LAST_LETTER];
+                int part = Part.withLetter(parts, op.shape.charAt(i));
                 bits |= part == NONE ? 0 : parts[part].bitsUsed();
             }
             return bits;
@@ -2114,7 +2118,7 @@ public final class TranslatingHost {
 
         private boolean allowsAll(Op op, int bits) {
             for (int i = 0; i < op.shape.length(); i++) {
-                int part = partWith[op.shape.charAt(i) & Part.LAST_LETTER];
+                int part = Part.withLetter(parts, op.shape.charAt(i));
                 if (part != NONE && !parts[part].allows(parts[part].valueIn(bits))) {
                     return false;
                 }
@@ -2129,7 +2133,7 @@ public final class TranslatingHost {
             }
             for (int i = 0; i < op.shape.length(); i++) {
                 char piece = op.shape.charAt(i);
-                int part = partWith[piece & Part.LAST_LETTER];
+                int part = Part.withLetter(parts, piece);
                 if (part != NONE) {
                     tellPart(parts[part].kind, parts[part].valueIn(bits));
                 } else if (piece == ',') {

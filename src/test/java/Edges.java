@@ -3,15 +3,20 @@ import java.lang.reflect.Method;
 import java.util.Map;
 import java.util.TreeMap;
 
-/** Runs each method of a class that takes and answers nothing as a test of its own: one boundary of the document. */
+/**
+ * Runs each method of a class that takes and answers nothing as a test of its own: one boundary of the document.
+ * With -Dedge=NAME it runs that one alone.
+ */
 final class Edges {
     private Edges() {
     }
 
     static void run(Class<?> cases) {
+        String only = System.getProperty("edge", "");
         Map<String, Method> byName = new TreeMap<>();
         for (Method m : cases.getDeclaredMethods()) {
-            if (m.getParameterCount() == 0 && m.getReturnType() == void.class) {
+            boolean wanted = only.isEmpty() || m.getName().equals(only);
+            if (wanted && m.getParameterCount() == 0 && m.getReturnType() == void.class) {
                 byName.put(m.getName(), m);
             }
         }

@@ -19,6 +19,7 @@ public final class LanguageTest {
         words(source);
         library(source);
         statics(source);
+        copies(source);
         methods(source);
         Due.done();
     }
@@ -70,6 +71,13 @@ public final class LanguageTest {
         int constants = times(source, "\\bprivate static final (int|long|boolean|char|String|int\\[\\]) \\w+ =");
         Due.is("static fields but NONE are private constants", constants, fields - 1);
         Due.is("static blocks", times(source, "\\bstatic\\s*\\{"), 0);
+    }
+
+    /** An enum's values() is a copy each time. */
+    private static void copies(String source) {
+        Due.is("copies of Op's constants", times(source, "\\bOp\\.values\\(\\)"), 1);
+        Due.is("copies of Part's constants", times(source, "\\bPart\\.values\\(\\)"), 1);
+        Due.is("copies of an enum's constants", times(source, "\\bvalues\\(\\)"), 2);
     }
 
     private static void methods(String source) {
